@@ -294,12 +294,13 @@ public final class StepPile {
         }
 
         int get(int row, int k) {
-            return k >= 0 && k < size(row) ? cells[starts[row] + k] : NONE;
+            boolean there = has(row) && k >= 0 && k < starts[row + 1] - starts[row];
+            return there ? cells[starts[row] + k] : NONE;
         }
 
         /** Whether that many numbers from k on are there in a row. */
         private boolean hasPart(int row, int k, int size) {
-            return has(row) && k >= 0 && size >= 0 && k <= size(row) - size;
+            return has(row) && k >= 0 && size >= 0 && k <= starts[row + 1] - starts[row] - size;
         }
 
         boolean isSame(int row, int k, Rows other, int otherRow, int otherK, int size) {
@@ -411,11 +412,11 @@ public final class StepPile {
         }
 
         boolean isVariable(int s) {
-            return has(s) && variables[s];
+            return s >= 0 && s < known && variables[s];
         }
 
         boolean isConstant(int s) {
-            return has(s) && !variables[s];
+            return s >= 0 && s < known && !variables[s];
         }
 
         private boolean areTwoVariables(int s, int t) {
@@ -696,15 +697,12 @@ public final class StepPile {
                 mark++;
                 int size = pile.size(row);
                 for (int k = 1; k < size; k++) {
-                    noteInside(pile.get(row, k));
+                    int symbol = pile.get(row, k);
+                    if (symbols.isVariable(symbol) && seen[symbol] != mark) {
+                        seen[symbol] = mark;
+                        inside.append(symbol);
+                    }
                 }
-            }
-        }
-
-        private void noteInside(int symbol) {
-            if (symbols.isVariable(symbol) && seen[symbol] != mark) {
-                seen[symbol] = mark;
-                inside.append(symbol);
             }
         }
 

@@ -24,6 +24,7 @@ public final class LanguageTest {
         "\\bthrow\\b", "\\bthrows\\b", "\\btry\\b", "\\bcatch\\b", "\\bsynchronized\\b", "\\bassert\\b", "->", "::",
         "\\bextends\\b", "\\bpackage\\b", "\\bSystem\\.(?!arraycopy)", "\\bRandom\\b", "Exact\\b", "\\bnull\\b"
     };
+    private static final int NOTHING = 0;
     private static final Due d = new Due();
 
     private LanguageTest() {
@@ -109,6 +110,7 @@ public final class LanguageTest {
             d.due("symbol", x.symbol(n == 0 ? 1 : 0), n);
         }
         d.due("symbol beyond 1000", x.symbol(0), -1);
+        d.due("apart of one beyond the last", x.apart(1000, 999), 0);
         d.due("apart of the last two", x.apart(999, 998), 1);
         d.due("apart of the first and the last", x.apart(999, 1), 1);
         for (int n = 0; n < 300; n++) {
@@ -189,8 +191,6 @@ public final class LanguageTest {
                 return x.check() == 1 ? NOTHING : -2;
         }
     }
-
-    private static final int NOTHING = 0;
 
     /** Far beyond 512 calls: there too nothing may throw. */
     private static void wildCalls() {

@@ -15,7 +15,9 @@ public final class PromisesTest {
         promise5Variables();
         promise6();
         promise7();
+        promise7FirstStatement();
         promise8();
+        promise8EachTwo();
         promise9Hypotheses();
         promise9Floating();
         promise9Essential();
@@ -23,6 +25,7 @@ public final class PromisesTest {
         promise9Pairs();
         promise9FaultOrder();
         promise9ManyRows();
+        promise9VariableZero();
         promise10();
         promise11();
         promise12();
@@ -279,6 +282,21 @@ public final class PromisesTest {
         d.due("another assertion's floating one does not count", x.close(), 0);
     }
 
+    private static void promise7FirstStatement() {
+        d.at("promises 5 to 7, statement 0 is an assertion");
+        StepPile x = new StepPile();
+        int c = Telling.constant(x);
+        int v = Telling.variable(x);
+        int w = Telling.variable(x);
+        d.due("begin(2)", x.begin(2), 0);
+        d.due("need of itself", x.need(0), -1);
+        d.due("pair without floating ones", x.pair(v, w), -1);
+        x.put(c);
+        x.put(v);
+        d.due("close() without a floating one", x.close(), 0);
+        d.due("begin when it is open", x.begin(0), -1);
+    }
+
     private static void promise8() {
         d.at("promise 8");
         StepPile x = new StepPile();
@@ -306,6 +324,22 @@ public final class PromisesTest {
         }
         d.due("apart(39, 20), as before", x.apart(39, 20), 0);
         d.due("apart(1, 3), not yet", x.apart(1, 3), 1);
+    }
+
+    private static void promise8EachTwo() {
+        d.at("promise 8, each two");
+        StepPile x = new StepPile();
+        for (int k = 0; k < 31; k++) {
+            Telling.variable(x);
+        }
+        for (int s = 0; s < 31; s++) {
+            for (int t = 0; t < s; t++) {
+                d.due("apart(" + s + ", " + t + ")", x.apart(s, t), 1);
+            }
+        }
+        for (int s = 0; s < 15; s++) {
+            d.due("apart again", x.apart(s, 30 - s), 0);
+        }
     }
 
     private static void promise9Hypotheses() {
@@ -551,6 +585,23 @@ public final class PromisesTest {
             d.due("length(" + row + ")", x.length(row), 1 + (1 << row));
         }
         d.due("count(4)", x.count(4), 8 + 255);
+    }
+
+    private static void promise9VariableZero() {
+        d.at("promise 9, symbol 0 is a variable");
+        StepPile x = new StepPile();
+        int v = Telling.variable(x);
+        int w = Telling.variable(x);
+        int c = Telling.constant(x);
+        int[] f = {Telling.floating(x, c, v), Telling.floating(x, c, w)};
+        int a = paired(x, c, f, new int[] {v, w});
+        d.due("told(a, 2)", x.told(a, 2), 1);
+        Telling.steps(x, f[1], f[0]);
+        d.due("not apart", x.step(a), 17);
+        d.due("apart(w, v)", x.apart(w, v), 1);
+        Telling.steps(x, f[1], f[0]);
+        d.due("apart", x.step(a), 0);
+        d.isTrue("the new row", Telling.isRow(x, 0, c, w, v));
     }
 
     private static void promise10() {
