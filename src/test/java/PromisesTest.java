@@ -22,6 +22,7 @@ public final class PromisesTest {
         promise9Floating();
         promise9Essential();
         promise9EmptyRest();
+        promise9ShortRowOnTop();
         promise9Pairs();
         promise9FaultOrder();
         promise9ManyRows();
@@ -473,6 +474,27 @@ public final class PromisesTest {
         d.isTrue("a row of one symbol", Telling.isRow(x, 2, k));
         Telling.steps(x, bare, bare, one);
         d.due("one symbol too many", x.step(a), 16);
+    }
+
+    /** What a hypothesis becomes is longer than the row on top, wherever the pile's symbols end. */
+    private static void promise9ShortRowOnTop() {
+        d.at("promise 9, a short row on top");
+        for (int under = 0; under <= 120; under++) {
+            StepPile x = new StepPile();
+            int c = Telling.constant(x);
+            int v = Telling.variable(x);
+            int f = Telling.floating(x, c, v);
+            int e = Telling.essential(x, c, v);
+            int five = Telling.assertion(x, Telling.needs(f), c, v, v, v, v, v);
+            int bare = Telling.essential(x, c);
+            int a = Telling.assertion(x, Telling.needs(f, e), c, v);
+            for (int n = 0; n < under; n++) {
+                Telling.steps(x, bare);
+            }
+            Telling.steps(x, f, five, bare);
+            d.due("step(a) on " + (under + 7) + " symbols", x.step(a), 16);
+            isEmpty(x);
+        }
     }
 
     private static int paired(StepPile x, int c, int[] floating, int[] variables) {
